@@ -110,7 +110,8 @@ public final class Quipuhall {
     }
 
     public int cordAt(int cord, int index)
-            throws IndexOutOfBoundsException, UnsupportedOperationException, NoSuchElementException {
+            throws IndexOutOfBoundsException, UnsupportedOperationException,
+            NoSuchElementException {
         ArrayList<Cord> tree = orderOf(treeOf(cord));
         if (index < 0 || index >= tree.size()) {
             throw new NoSuchElementException("no such index");

@@ -48,13 +48,22 @@ final class Check {
         }
     }
 
-    /** The answer, or the class of the exception. */
+    /** The answer, or the class of the exception that a throw in the class threw. */
     private static Object answerOf(Call call) {
         try {
             return call.run();
         } catch (RuntimeException thrown) {
-            return thrown.getClass();
+            return isOfItsOwn(thrown) ? thrown.getClass() : thrown + ", thrown by the machine";
         }
+    }
+
+    /** The machine's exceptions come from the library or have another text than a written one. */
+    static boolean isOfItsOwn(Throwable thrown) {
+        StackTraceElement[] trace = thrown.getStackTrace();
+        String text = thrown.getMessage();
+        return trace.length > 0 && trace[0].getClassName().startsWith("Quipuhall")
+                && text != null && !text.startsWith("Index ") && !text.startsWith("Cannot ")
+                && !text.equals("/ by zero");
     }
 
     private static void report(String what, Object answer, boolean isRight, Object due) {

@@ -288,5 +288,18 @@ final class FragmentTest {
                     () -> x.matches(none));
             Check.refused("join", UnsupportedOperationException.class, () -> x.join(none, 0));
         }
+        // These would agree by sums and colours, but are no fragments.
+        Quipuhall y = new Quipuhall();
+        y.main();
+        y.main();
+        y.hang(0, 'h', 0, 's');
+        for (int cord = 0; cord < 3; cord++) {
+            int none = cord;
+            Check.refused("no fragment", UnsupportedOperationException.class,
+                    () -> y.join(none, 1 - none / 2));
+            Check.refused("no fragment", UnsupportedOperationException.class,
+                    () -> y.fits(none, 1 - none / 2));
+        }
+        Check.same("nothing is joined", () -> y.size(0), 2);
     }
 }

@@ -137,6 +137,12 @@ final class HallTest {
         Quipuhall x = busy();
         set(at(x, "cords", 3), "sort", 't');
         Check.same("sorts in a group", () -> x.isSound(), false);
+        Quipuhall z = new Quipuhall();
+        z.main();
+        z.hang(0, 'h', 0, 'c');
+        z.hang(0, 'h', 0, 'c');
+        set(at(z, "cords", 2), "sort", 't');
+        Check.same("sorts in a group of a main cord", () -> z.isSound(), false);
         Quipuhall y = busy();
         set(at(y, "cords", 4), "sort", 'h');
         Check.same("a sort alone in a group", () -> y.isSound(), true);
@@ -149,6 +155,11 @@ final class HallTest {
         Quipuhall y = busy();
         set(at(y, "cords", 2), "on", null);
         Check.same("a cord in two trees", () -> y.isSound(), false);
+        Quipuhall z = new Quipuhall();
+        z.main();
+        z.hang(0, 'h', 0, 'c');
+        set(at(z, "cords", 1), "on", at(z, "cords", 1));
+        Check.same("a cord on itself", () -> z.isSound(), false);
     }
 
     private static void unsoundDebts() throws ReflectiveOperationException {
@@ -167,9 +178,11 @@ final class HallTest {
 
     private static void unsoundStores() throws ReflectiveOperationException {
         for (String field : new String[] {"stored", "drawn", "spoiled"}) {
-            Quipuhall x = busy();
-            ((long[]) part(at(x, "houses", 0), field))[1]++;
-            Check.same(field, () -> x.isSound(), false);
+            for (int good = 0; good < 4; good++) {
+                Quipuhall x = busy();
+                ((long[]) part(at(x, "houses", 0), field))[good]++;
+                Check.same(field, () -> x.isSound(), false);
+            }
         }
         Quipuhall y = busy();
         ((int[]) part(at(y, "houses", 0), "pieces"))[1]--;

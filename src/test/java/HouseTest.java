@@ -60,6 +60,11 @@ final class HouseTest {
         x.put(0, 0, 100);
         x.put(0, 1, 600);
         rooms("one good", x, 0, 0, 100, 0, 0, 0, 0);
+        Quipuhall y = new Quipuhall();
+        y.house(2);
+        y.put(0, 1, 1);
+        y.put(0, 1, 5);
+        rooms("a room with one piece", y, 0, 1, 6, 0);
         rooms("another good", x, 0, 1, 0, 500, 100, 0, 0);
         Check.same("the good's rooms, then empty ones", () -> x.put(0, 0, 901), 1001);
         rooms("the good's rooms, then empty ones", x, 0, 0, 500, 0, 0, 500, 1);

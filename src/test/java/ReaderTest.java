@@ -46,6 +46,8 @@ final class ReaderTest {
         Check.same("another reader", () -> x.learn(1, 1, 5), 1);
         Check.same("each has words", () -> x.word(0, 1), 0);
         Check.same("each has words", () -> x.word(1, 1), 5);
+        Check.refused("the word 0 is known", UnsupportedOperationException.class,
+                () -> x.learn(0, 1, 6));
         Check.same("one word for two names", () -> x.learn(0, 3, 99), 3);
         x.tie(3, 0, 'n', 1);
         Check.same("a name is of knots, not of a cord", () -> x.word(0, 3), 0);

@@ -41,12 +41,17 @@ final class SlipTest {
 
     private static void none() {
         changes("nothing quarrels", withCounts(42, 12, 30), 0);
+        Quipuhall x = withCounts(43, 12, 30);
+        Check.same("asked without their number", () -> x.likelyAt(0, 1, 'd'), 3);
+        x.write(0, 44);
+        Check.same("asked without their number", () -> x.likelyAt(0, 1, 'd'), 4);
         changes("nothing is due", withCounts(42), 0);
         changes("two digits are wrong", withCounts(99, 12, 30), 0);
     }
 
     private static void sums() {
         changes("one too many", withCounts(43, 12, 30), 0, 0, 0, 2, 1, 0, 3, 2, 0, 1);
+        changes("from no knot", withCounts(0, 5), 0, 0, 0, 5, 1, 0, 0);
         changes("to no knot", withCounts(41, 1, 41), 0, 0, 0, 2, 1, 0, 0, 2, 0, 0);
         changes("no digit below 0", withCounts(5, 0, 7), 0, 0, 0, 7, 2, 0, 5);
         changes("no digit above 9", withCounts(12, 9, 1), 0, 0, 0, 0, 2, 0, 3);
