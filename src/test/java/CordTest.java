@@ -191,6 +191,8 @@ final class CordTest {
         }
         Check.refused("five steps", UnsupportedOperationException.class,
                 () -> x.hang(4, 'h', 0, 'c'));
+        Check.same("the highest one counts", () -> x.size(0), 5);
+        Check.same("the highest one is told", () -> x.cordAt(0, 4), 4);
         x.cut(1);
         Check.same("steps count from the fragment", () -> x.hang(4, 'h', 0, 'c'), 5);
         Check.refused("five steps from the fragment", UnsupportedOperationException.class,

@@ -280,6 +280,17 @@ final class RelayTest {
         x.cut(5);
         Check.same("fragments", () -> x.unlike(2, 5), 1);
         Check.same("a fragment and itself", () -> x.unlike(2, 2), 0);
+        Quipuhall y = new Quipuhall();
+        y.main();
+        for (int i = 0; i < 4; i++) {
+            y.hang(i, 'h', 0, 'c');
+        }
+        y.relay(5, 0, 1);
+        y.carry(0, 0, 0);
+        Check.same("the highest one", () -> y.unlike(0, 5), 1);
+        y.cut(9);
+        Check.refused("one cord less", UnsupportedOperationException.class,
+                () -> y.unlike(0, 5));
     }
 
     private static void unlikeWrong() {
