@@ -49,7 +49,7 @@ final class Check {
     }
 
     /** The answer, or the class of the exception that a throw in the class threw. */
-    private static Object answerOf(Call call) {
+    static Object answerOf(Call call) {
         try {
             return call.run();
         } catch (RuntimeException thrown) {

@@ -6,6 +6,7 @@ import java.lang.reflect.Modifier;
 import java.nio.charset.StandardCharsets;
 import java.nio.file.Files;
 import java.nio.file.Path;
+import java.util.ArrayList;
 import java.util.Arrays;
 import java.util.List;
 import java.util.TreeSet;
@@ -16,6 +17,7 @@ import java.util.regex.Pattern;
 final class FaceTest {
     public static void main(String[] args) throws IOException {
         face();
+        sizes();
         language();
         Check.end();
     }
@@ -98,5 +100,46 @@ final class FaceTest {
         Matcher thrown = Pattern.compile("throw\\b(?! new \\w+\\(\"[^\"]*\"\\);)(?!s\\b)")
                 .matcher(source);
         Check.holds("only written texts are thrown", !thrown.find());
+        lengths(source.replaceAll("\"[^\"\n]*\"", ""));
+    }
+
+    /** At most seven parameters, and some twelve classes of some twenty fields. */
+    private static void sizes() {
+        List<Class<?>> classes = new ArrayList<>(List.of(Quipuhall.class.getDeclaredClasses()));
+        classes.add(Quipuhall.class);
+        Check.holds("classes", classes.size() <= 12);
+        for (Class<?> one : classes) {
+            long fields = Arrays.stream(one.getDeclaredFields())
+                    .filter(field -> !Modifier.isStatic(field.getModifiers())).count();
+            Check.holds("fields of " + one.getName(), fields <= 20);
+            for (Method method : one.getDeclaredMethods()) {
+                Check.holds("parameters of " + method.getName(),
+                        method.getParameterCount() <= 7);
+            }
+            for (Field field : one.getDeclaredFields()) {
+                int modifiers = field.getModifiers();
+                Check.holds("static and not final: " + field.getName(),
+                        !Modifier.isStatic(modifiers) || Modifier.isFinal(modifiers));
+            }
+        }
+    }
+
+    /** No block but that of a class has more than some sixty lines. */
+    private static void lengths(String source) {
+        String[] lines = source.split("\n");
+        int[] starts = new int[lines.length + 1];
+        int depth = 0;
+        for (int i = 0; i < lines.length; i++) {
+            for (char sign : lines[i].toCharArray()) {
+                if (sign == '{') {
+                    starts[depth++] = i;
+                } else if (sign == '}') {
+                    int start = starts[--depth];
+                    Check.holds("lines from " + lines[start].strip(),
+                            i - start <= 60 || lines[start].contains(" class "));
+                }
+            }
+        }
+        Check.holds("braces in pairs", depth == 0);
     }
 }

@@ -200,6 +200,16 @@ final class FragmentTest {
         x.write(2, 30);
         x.tie(0, 3, 'n', 1);
         Check.same("it must be a number", () -> x.fits(2, 0), false);
+        x.tie(2, 3, 'n', 1);
+        Check.same("it must be a number, what is due unknown or not", () -> x.fits(2, 0), false);
+        x.tie(1, 0, 's', 1);
+        Check.same("all are no numbers", () -> x.fits(2, 0), false);
+        Check.same("all are no numbers", () -> x.matches(2), 0);
+        x.write(0, 5);
+        Check.same("only the sum is a number", () -> x.join(2, 0), 2);
+        Check.refused("what is due is unknown then", NoSuchElementException.class,
+                () -> x.due(0));
+        Check.same("so it does not quarrel", () -> x.isQuarrelling(0), false);
     }
 
     private static void matches() {

@@ -8,6 +8,7 @@ final class HallTest {
         numberShare();
         meanValue();
         sound();
+        soundBehindEachChange();
         unsoundSorts();
         unsoundDues();
         unsoundDebts();
@@ -112,6 +113,50 @@ final class HallTest {
         x.cut(2);
         x.cut(4);
         Check.same("fragments", () -> x.isSound(), true);
+        for (char role : new char[] {'c', 's', 'g', 'd'}) {
+            Quipuhall y = new Quipuhall();
+            y.main();
+            for (int i = 1; i <= 4; i++) {
+                y.hang((i - 1) / 2, 'h', 0, role);
+                y.write(i, i);
+            }
+            Check.same("first groups " + role, () -> y.isSound(), true);
+            y.group(0);
+            Check.same("an empty group " + role, () -> y.isSound(), true);
+            y.hang(0, 't', 0, role);
+            Check.same("a second group " + role, () -> y.isSound(), true);
+            y.cut(1);
+            y.cut(2);
+            Check.same("an emptied group ahead " + role, () -> y.isSound(), true);
+        }
+    }
+
+    /** Each change comes twice, so that what is told of the first one is not lost. */
+    private static void soundBehindEachChange() {
+        Quipuhall x = new Quipuhall();
+        x.main();
+        x.write(0, 17);
+        for (int i = 0; i < 2; i++) {
+            x.house(6);
+            x.province(0);
+        }
+        for (int i = 0; i < 8; i++) {
+            int number = i / 2 % 2;
+            int good = i % 4;
+            soundBehind("labour", x, () -> x.labour(number, 9 + number));
+            soundBehind("pay", x, () -> x.pay(number, good, 2));
+            soundBehind("remit", x, () -> x.remit(number, 10));
+            soundBehind("move", x, () -> x.move(number, 1 - number, 3));
+            soundBehind("put", x, () -> x.put(number, good, 550));
+            soundBehind("draw", x, () -> x.draw(number, good, 0));
+            soundBehind("spoil", x, () -> x.spoil());
+            soundBehind("rate", x, () -> x.rate(good, 2));
+        }
+    }
+
+    private static void soundBehind(String what, Quipuhall x, Check.Call call) {
+        Check.holds(what, !(Check.answerOf(call) instanceof Class));
+        Check.same("sound behind " + what, () -> x.isSound(), true);
     }
 
     private static Object part(Object of, String field) throws ReflectiveOperationException {

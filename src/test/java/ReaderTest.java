@@ -10,6 +10,8 @@ final class ReaderTest {
         teachWrong();
         wordWrong();
         manyNames();
+        nameOfZero();
+        namesBelowZero();
         Check.end();
     }
 
@@ -124,6 +126,50 @@ final class ReaderTest {
         x.learn(0, 1, 1);
         x.write(1, 1);
         Check.refused("a number now", UnsupportedOperationException.class, () -> x.word(0, 1));
+    }
+
+    /** Ties knots that are no number, and whose name is 0. */
+    private static void tieZero(Quipuhall x, int cord) {
+        x.tie(cord, 1, 'n', 1);
+        x.tie(cord, 5, 's', 1);
+        x.tie(cord, 3, 's', 8);
+    }
+
+    // 0 is a name like another one: it is not known before it is learned.
+    private static void nameOfZero() {
+        Quipuhall x = withNames();
+        tieZero(x, 0);
+        x.reader();
+        x.reader();
+        Check.same("name", () -> x.name(0), 0);
+        Check.refused("a new reader", NoSuchElementException.class, () -> x.word(0, 0));
+        Check.same("nothing to teach", () -> x.teach(0, 1), 0);
+        x.learn(0, 1, 4);
+        Check.refused("another name is known", NoSuchElementException.class,
+                () -> x.word(0, 0));
+        Check.same("one to teach", () -> x.teach(0, 1), 1);
+        Check.refused("what was taught is another name", NoSuchElementException.class,
+                () -> x.word(1, 0));
+        Check.same("learn", () -> x.learn(0, 0, 0), 2);
+        Check.same("the word 0 for the name 0", () -> x.word(0, 0), 0);
+        Check.refused("known", UnsupportedOperationException.class, () -> x.learn(0, 0, 5));
+        Check.same("it is taught", () -> x.teach(0, 1), 1);
+        Check.same("it is taught", () -> x.word(1, 0), 0);
+    }
+
+    // A name is cast to short, so it may be below 0.
+    private static void namesBelowZero() {
+        Quipuhall x = withNames();
+        x.reader();
+        x.tie(0, 0, 'n', 3);
+        x.tie(0, 3, 's', 9);
+        Check.same("name", () -> x.name(0), (short) 0x9403);
+        Check.refused("not known", NoSuchElementException.class, () -> x.word(0, 0));
+        Check.same("learn", () -> x.learn(0, 0, 8), 1);
+        Check.same("word", () -> x.word(0, 0), 8);
+        x.tie(0, 3, 's', 1);
+        Check.same("name", () -> x.name(0), 0x1403);
+        Check.refused("not known", NoSuchElementException.class, () -> x.word(0, 0));
     }
 
     /** As many names as 512 calls can tell. */

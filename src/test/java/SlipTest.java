@@ -1,3 +1,4 @@
+import java.util.Arrays;
 import java.util.NoSuchElementException;
 
 /** Promises 17 and 18: likely, likelyAt. */
@@ -11,6 +12,9 @@ final class SlipTest {
         differences();
         fragments();
         unknown();
+        strangeSums();
+        largeThenSmall();
+        eachDigit();
         wrong();
         Check.end();
     }
@@ -159,6 +163,80 @@ final class SlipTest {
         changes("cords of no unknown due change freely", x, 0, 3, 0, 0, 4, 0, 4);
         x.tie(4, 3, 'l', 2);
         changes("no number is not changed", x, 0);
+    }
+
+    // 'A cord quarrels if it is a number', so a strange sum never does, whatever is due for it.
+    private static void strangeSums() {
+        for (int count = 0; count <= 3; count++) {
+            Quipuhall x = withCounts(0, count);
+            x.tie(0, 0, 's', 1);
+            changes("a strange main cord", x, 0);
+        }
+        Quipuhall y = withCounts(43, 12, 30);
+        y.hang(2, 'h', 0, 's');
+        y.hang(3, 'h', 0, 'c');
+        y.tie(3, 4, 'n', 1);
+        changes("a strange sum beside", y, 0, 0, 0, 2, 1, 0, 3, 2, 0, 1);
+        y.write(4, 5);
+        changes("what is due for it counts nothing", y, 0, 0, 0, 2, 1, 0, 3, 2, 0, 1);
+        y.write(3, 4);
+        changes("a number again", y, 0);
+    }
+
+    // What a question finds on one tree counts nothing on another one, of more or fewer cords.
+    private static void largeThenSmall() {
+        Quipuhall x = new Quipuhall();
+        x.main();
+        for (int i = 1; i <= 9; i++) {
+            x.hang(0, 'h', 0, 's');
+            x.hang(i == 1 ? 1 : 2 * i - 1, 'h', 0, 'c');
+            x.write(2 * i - 1, i);
+        }
+        x.main();
+        x.hang(19, 'h', 0, 'c');
+        x.write(20, 5);
+        for (int i = 0; i < 2; i++) {
+            changes("many quarrels", x, 0);
+            changes("one quarrel", x, 19, 19, 0, 5, 20, 0, 0);
+        }
+        x.write(20, 0);
+        changes("many quarrels", x, 0);
+        changes("no quarrel", x, 19);
+    }
+
+    /** A main cord and two counts of one digit each, at each place, the changes found by trying. */
+    private static void eachDigit() {
+        for (int ten = 1; ten <= 1000000; ten *= 10) {
+            for (int i = 0; i < 1000; i++) {
+                int[] values = {i / 100 * ten, i / 10 % 10 * ten, i % 10 * ten};
+                Quipuhall x = withCounts(values[0], values[1], values[2]);
+                changes("digits " + i + " by " + ten, x, 0, tried(values));
+            }
+        }
+    }
+
+    /** Each change of a digit that makes the first value the sum of the others, if it is not. */
+    private static int[] tried(int[] values) {
+        int[] found = new int[9];
+        int count = 0;
+        boolean isWrong = values[0] != values[1] + values[2];
+        for (int cord = 0; isWrong && cord < 3; cord++) {
+            int before = values[cord];
+            int ten = 1;
+            for (int place = 0; place < 7; place++) {
+                for (int digit = 0; digit < 10; digit++) {
+                    values[cord] = before + (digit - before / ten % 10) * ten;
+                    if (values[0] == values[1] + values[2]) {
+                        found[count++] = cord;
+                        found[count++] = place;
+                        found[count++] = digit;
+                    }
+                }
+                ten *= 10;
+            }
+            values[cord] = before;
+        }
+        return Arrays.copyOf(found, count);
     }
 
     private static void wrong() {
