@@ -23,7 +23,7 @@ final class Probe {
     private static final int MOST_CALLS = 380;
 
     private static final Look[] LOOKS = {Probe::cords, Probe::trees, Probe::changes,
-        Probe::groups, Probe::colours, Probe::readers, Probe::relays, Probe::provinces,
+        probe -> probe.groups('h', 't'), probe -> probe.groups('t', 'h'), Probe::colours, Probe::readers, Probe::relays, Probe::provinces,
         Probe::houses, Probe::mains};
 
     private final Quipuhall hall;
@@ -127,16 +127,20 @@ final class Probe {
         }
     }
 
-    private void groups() {
+    /** A group shows in the sort that it takes, and its number in what is due for a new cord. */
+    private void groups(char sort, char other) {
         int count = cordCount();
         for (int i = 0; i < count; i++) {
             int cord = i;
-            ask("hang " + cord, x -> x.hang(cord, 'h', 0, 'g'));
-            ask("stand " + cord, x -> x.hang(cord, 't', 0, 'g'));
+            ask("hang " + cord + sort, x -> x.hang(cord, sort, 0, 'g'));
+            ask("hang " + cord + other, x -> x.hang(cord, other, 0, 'g'));
             ask("group " + cord, x -> x.group(cord));
-            ask("hang " + cord, x -> x.hang(cord, 'h', 0, 'd'));
+            ask("hang " + cord + other, x -> x.hang(cord, other, 0, 'g'));
         }
-        ask("checksum", x -> x.checksum());
+        for (int i = 0; i < 60; i++) {
+            int cord = i;
+            ask("due " + cord, x -> x.due(cord));
+        }
     }
 
     private void colours() {

@@ -194,6 +194,8 @@ final class SlipTest {
         }
         x.main();
         x.hang(19, 'h', 0, 'c');
+        // With it the small tree ends where the large one has a sum, which quarrels.
+        x.hang(20, 'h', 0, 'c');
         x.write(20, 5);
         for (int i = 0; i < 2; i++) {
             changes("many quarrels", x, 0);
