@@ -23,8 +23,8 @@ final class Probe {
     private static final int MOST_CALLS = 380;
 
     private static final Look[] LOOKS = {Probe::cords, Probe::trees, Probe::changes,
-        probe -> probe.groups('h', 't'), probe -> probe.groups('t', 'h'), Probe::colours, Probe::readers, Probe::relays, Probe::provinces,
-        Probe::houses, Probe::mains};
+        probe -> probe.groups('h', 't'), probe -> probe.groups('t', 'h'), Probe::colours,
+        Probe::readers, Probe::relays, Probe::provinces, Probe::houses, Probe::mains};
 
     private final Quipuhall hall;
     private final List<String> answers = new ArrayList<>();
